@@ -68,6 +68,10 @@ public final class LookingTest {
             Checks.refused(p, "15: piece(" + w[0] + ", " + w[1] + ")",
                     () -> p.piece(w[0], w[1]), Checks.INVALID);
         }
+        LaidPieces large = Checks.with(Checks.at(0, 0, 12, 12, 100), Checks.at(5, 5, 1, 1, 0));
+        Checks.due("15: one cell of 144 is missing", large.piece(0, 8), 0);
+        large.setShare(0, 99);
+        Checks.due("15: 143 of 144 cells are 99 of 100", large.piece(0, 8), 1);
         p.setShare(0, 90);
         Checks.due("15: just content", p.piece(0, 8), 1);
         p.setShare(0, 91);
@@ -94,6 +98,31 @@ public final class LookingTest {
                 Checks.at(3, 0, 1, 2, 0));
         Checks.due("15: a ring that is cut once", ring.piece(0, 9), 1);
         Checks.due("15: its cells", ring.piece(0, 10), 43);
+        LaidPieces above = Checks.with(Checks.at(0, 0, 9, 1, 0), Checks.at(4, 0, 1, 1, 0));
+        Checks.due("15: parts in the uppermost row", above.piece(0, 9), 2);
+        above.setPage(4, 4);
+        Checks.due("15: one of them outside", above.piece(0, 9), 1);
+        // Left, below and right of a hole with a gap above: two arms hang on a row below.
+        LaidPieces arms = Checks.with(Checks.at(2, 2, 5, 5, 0), Checks.at(3, 2, 3, 4, 0));
+        Checks.due("15: two arms", arms.piece(0, 9), 1);
+        Checks.due("15: their cells", arms.piece(0, 10), 13);
+        // The same, hanging on a column to the right.
+        LaidPieces teeth = Checks.with(Checks.at(2, 2, 5, 5, 0), Checks.at(2, 3, 4, 3, 0));
+        Checks.due("15: two teeth", teeth.piece(0, 9), 1);
+        Checks.due("15: their cells", teeth.piece(0, 10), 13);
+        LaidPieces gap = Checks.with(Checks.at(2, 2, 5, 3, 0), Checks.at(4, 2, 1, 3, 0),
+                Checks.at(2, 3, 5, 1, 0));
+        Checks.due("15: one cell apart is not connected", gap.piece(0, 9), 4);
+        Checks.due("15: the largest", gap.piece(0, 10), 2);
+        LaidPieces hook = Checks.with(Checks.at(2, 2, 2, 3, 0), Checks.at(2, 2, 1, 2, 0));
+        Checks.due("15: a hook to the left", hook.piece(0, 9), 1);
+        Checks.due("15: its cells", hook.piece(0, 10), 4);
+        LaidPieces spiral = Checks.with(Checks.at(0, 0, 12, 12, 0), Checks.at(0, 1, 11, 1, 0),
+                Checks.at(10, 2, 1, 9, 0), Checks.at(1, 10, 9, 1, 0), Checks.at(1, 3, 1, 7, 0),
+                Checks.at(2, 3, 7, 1, 0), Checks.at(8, 4, 1, 5, 0), Checks.at(3, 8, 5, 1, 0),
+                Checks.at(3, 5, 1, 3, 0), Checks.at(4, 5, 3, 1, 0), Checks.at(6, 6, 1, 1, 0));
+        Checks.due("15: a spiral is one part", spiral.piece(0, 9), 1);
+        Checks.due("15: its cells", spiral.piece(0, 10), 144 - 60);
         LaidPieces comb = Checks.with(Checks.at(0, 0, 11, 4, 0));
         for (int x = 1; x < 11; x += 2) {
             comb.addPiece(x, 0, 1, 3, 0);
@@ -230,6 +259,12 @@ public final class LookingTest {
             Checks.refused(p, "19: edge(" + w[0] + ", " + w[1] + ")", () -> p.edge(w[0], w[1]),
                     Checks.INVALID);
         }
+        LaidPieces thin = Checks.with(Checks.at(0, 2, 1, 3, 0), Checks.at(15, 2, 1, 3, 0),
+                Checks.at(2, 0, 3, 1, 0), Checks.at(2, 11, 3, 1, 0), Checks.at(1, 2, 1, 3, 0),
+                Checks.at(14, 2, 1, 3, 0), Checks.at(2, 1, 3, 1, 0), Checks.at(2, 10, 3, 1, 0));
+        for (int i = 0; i < 8; i++) {
+            Checks.due("19: the border of piece " + i, thin.edge(i, -2), i < 4 ? 3 : 0);
+        }
         LaidPieces all = Checks.with(Checks.at(-1, -1, 12, 12, 0));
         all.setPage(4, 6);
         Checks.due("19: the whole border", all.edge(0, -2), 20);
@@ -246,6 +281,10 @@ public final class LookingTest {
         Checks.leaves(p, "20: the cells that another one hides too do not count",
                 () -> p.hides(1, 0), 4);
         Checks.due("20: cells outside do not count", p.hides(2, 0), 2);
+        LaidPieces q = Checks.with(Checks.at(0, 0, 4, 1, 0), Checks.at(1, 0, 2, 2, 0));
+        Checks.due("20: in the uppermost row, as the first look", q.hides(1, 0), 2);
+        q.shift(1, 2, 0);
+        Checks.due("20: behind a shift, as the first look", q.hides(1, 0), 1);
         Checks.due("20: hides(2, 1)", p.hides(2, 1), 2);
         Checks.due("20: a lower one hides nothing", p.hides(0, 1), 0);
         int[][] wrong = {{0, 0}, {-1, 0}, {3, 0}, {0, -1}, {0, 3}, {Integer.MIN_VALUE, 0},
@@ -275,6 +314,26 @@ public final class LookingTest {
         Checks.due("21: far too many", p.byShare(Integer.MAX_VALUE), Checks.NONE);
         Checks.refused(p, "21: the least index", () -> p.byShare(Integer.MIN_VALUE),
                 Checks.INVALID);
+        // 99 of 100 and all of 5, then 1 of 100 and none of 5.
+        LaidPieces r = Checks.with(Checks.at(0, 0, 5, 1, 0), Checks.at(2, 1, 10, 10, 0));
+        r.addPiece(5, 5, 1, 1, 0);
+        Checks.due("21: nearly all, as the first look", r.byShare(0), 1);
+        r.setLayer(1, 0);
+        r.setLayer(0, 0);
+        Checks.due("21: nearly all, in a higher layer", r.byShare(0), 1);
+        r.shift(2, 9, 6);
+        Checks.due("21: all of all, as the first look", r.byShare(0), 0);
+        r.shift(0, -5, 0);
+        r.shift(1, 13, 10);
+        Checks.due("21: one of 100 comes behind none", r.byShare(1), 1);
+        r.setLayer(1, 0);
+        Checks.due("21: one of 100 comes behind none", r.byShare(1), 1);
+        Checks.due("21: the one cell", r.piece(1, 7), 1);
+        LaidPieces t = Checks.with(Checks.at(-1, 0, 3, 1, 0), Checks.at(9, 1, 10, 10, 0),
+                Checks.at(10, 2, 2, 2, 0));
+        Checks.due("21: 2 of 3 and 66 of 100", t.byShare(0), 0);
+        t.setLayer(0, 1);
+        Checks.due("21: 66 of 100 and 2 of 3", t.byShare(0), 1);
         // 66 2/3 and 66 1/9 of a hundred are both 66: the lower layer is first.
         LaidPieces q = Checks.with(Checks.at(14, 0, 3, 1, 0), Checks.at(13, 11, 9, 1, 0));
         q.setPage(19, 12);

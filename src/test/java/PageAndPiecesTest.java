@@ -258,6 +258,29 @@ public final class PageAndPiecesTest {
         LaidPieces p = Checks.with(Checks.at(3, -2, 2, 2, 100), Checks.at(-1, 5, 2, 2, 100));
         Checks.due("9: two shifts", p.arrange(), 2);
         Checks.due("9: the cost", p.count(7), 3);
+        // The same in the other order, and with a step less between their costs.
+        LaidPieces o = Checks.with(Checks.at(-1, 5, 2, 2, 100), Checks.at(3, -2, 2, 2, 100),
+                Checks.at(8, -2, 2, 2, 50), Checks.at(12, -3, 1, 1, 1));
+        o.setShare(2, 0);
+        Checks.due("9: three shifts", o.arrange(), 3);
+        Checks.due("9: the cost", o.count(7), 6);
+        o.setShare(2, 1);
+        Checks.due("9: as the first look", o.arrange(), 1);
+        Checks.due("9: Y", o.piece(2, 1), -1);
+        Checks.due("9: as the first look", o.arrange(), Checks.STATE);
+        o.shift(3, 0, -1);
+        Checks.due("9: behind a shift, as the first look", o.arrange(), 1);
+        o.removePiece(3);
+        Checks.due("9: without it", o.arrange(), Checks.STATE);
+        // 0 could move by 2, but 1 can by 1, and with that 0 is content, too.
+        LaidPieces s = Checks.with(Checks.at(6, 5, 1, 1, 100), Checks.at(4, 4, 3, 2, 100),
+                Checks.at(6, 4, 2, 1, 100), Checks.at(6, 6, 1, 1, 0), Checks.at(7, 5, 1, 1, 0));
+        Checks.due("9: the cost for 0", s.leastShift(0, 1, 0), 2);
+        Checks.due("9: the cost for 1", s.leastShift(1, 1, 0), 1);
+        Checks.due("9: the cheaper one, though its number is larger", s.arrange(), 1);
+        Checks.due("9: the cost", s.count(7), 1);
+        Checks.due("9: X of 0", s.piece(0, 0), 6);
+        Checks.due("9: X of 1", s.piece(1, 0), 3);
         // Both are hidden by 2. 0 moves first; 1 then hides it at the same cost, with as many
         // pieces content as before, and 0 moves on.
         LaidPieces q = Checks.with(Checks.at(5, 5, 2, 2, 50), Checks.at(5, 5, 2, 2, 50),

@@ -68,6 +68,8 @@ public final class TextTest {
                         due[piece][what]);
             }
         }
+        Checks.due("12: all digits", Checks.loaded(new LaidPieces(),
+                "piece 9 19 9 8 99 frame 2;piece 39 -19 8 7 98;piece 16 25 4 3 90;"), 3);
         Checks.due("12: frame 0", Checks.loaded(p, "piece 1 2 3 4 5 frame 0;"), 1);
         Checks.due("12: its frame", p.piece(3, 5), 0);
         Checks.due("12: -0", Checks.loaded(p, "piece -0 -0 3 4 -0 frame -0;"), 1);
@@ -98,7 +100,8 @@ public final class TextTest {
         String[][] texts = {
             {"p", "0"}, {"page", "4"}, {"page ", "5"}, {"page  4", "7"}, {"page 4 4", "8"},
             {"page 4 4 ", "9"}, {"pages 4 4;", "0"}, {" pag 4 4;", "1"}, {"Page 4 4;", "0"},
-            {"page;", "4"}, {"page 4;", "6"}, {"page 4 4 4;", "9"}, {"page 4 4 frame 1;", "9"},
+            {"cage 4 4;", "0"}, {"niece 1 2 3 4 5;", "0"}, {"piecf 1", "0"},
+            {"piece 1 2 3 4 5 grame 1;", "16"}, {"piece 1 2 3 4 5 framf 1;", "16"}, {"page;", "4"}, {"page 4;", "6"}, {"page 4 4 4;", "9"}, {"page 4 4 frame 1;", "9"},
             {"page 4 page;", "7"}, {"page 4 4;page 4 4;", "9"},
             {"piece 1 2 3 4 5;page 4 4;", "16"}, {";", "0"}, {" ;", "1"}, {"page 4 4;;", "9"},
             {"piece", "5"}, {"piece 1 2 3 4 5", "15"}, {"piece 1 2 3 4;", "13"},
