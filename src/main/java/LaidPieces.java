@@ -862,7 +862,7 @@ public final class LaidPieces {
                 for (int across = -cost; across <= cost; across++) {
                     int down = cost - Math.abs(across);
                     if (reaches(piece, across, -down, needed)
-                            || reaches(piece, across, down, needed)) {
+                            || down > 0 && reaches(piece, across, down, needed)) {
                         return true;
                     }
                 }

@@ -17,7 +17,7 @@ public final class LookingTest {
     }
 
     private static void count() {
-        LaidPieces p = Checks.with(Checks.at(0, 0, 2, 2, 50), Checks.at(1, 0, 2, 2, 100),
+        Played p = Checks.with(Checks.at(0, 0, 2, 2, 50), Checks.at(1, 0, 2, 2, 100),
                 Checks.at(2, 0, 2, 2, 100), Checks.at(2, 0, 2, 3, 0), Checks.at(-9, 0, 2, 2, 0));
         p.shift(4, 1, 2);
         p.append('x');
@@ -39,7 +39,7 @@ public final class LookingTest {
     }
 
     private static void countFrames() {
-        LaidPieces p = Checks.with(Checks.at(0, 0, 4, 4, 0), Checks.at(5, 0, 4, 4, 0),
+        Played p = Checks.with(Checks.at(0, 0, 4, 4, 0), Checks.at(5, 0, 4, 4, 0),
                 Checks.at(6, 1, 2, 2, 0));
         Checks.due("14: no frames", p.count(5), 0);
         p.setFrame(0, 1);
@@ -54,7 +54,7 @@ public final class LookingTest {
     }
 
     private static void pieceProperties() {
-        LaidPieces p = Checks.with(Checks.at(1, 2, 5, 4, 35), Checks.at(4, 3, 12, 1, 100));
+        Played p = Checks.with(Checks.at(1, 2, 5, 4, 35), Checks.at(4, 3, 12, 1, 100));
         p.setFrame(0, 2);
         // Of piece 0 the two cells below piece 1 in row 3 are hidden.
         int[] due = {1, 2, 5, 4, 35, 2, 0, 18, 1, 1, 18, 4 + 2, 0};
@@ -68,7 +68,7 @@ public final class LookingTest {
             Checks.refused(p, "15: piece(" + w[0] + ", " + w[1] + ")",
                     () -> p.piece(w[0], w[1]), Checks.INVALID);
         }
-        LaidPieces large = Checks.with(Checks.at(0, 0, 12, 12, 100), Checks.at(5, 5, 1, 1, 0));
+        Played large = Checks.with(Checks.at(0, 0, 12, 12, 100), Checks.at(5, 5, 1, 1, 0));
         Checks.due("15: one cell of 144 is missing", large.piece(0, 8), 0);
         large.setShare(0, 99);
         Checks.due("15: 143 of 144 cells are 99 of 100", large.piece(0, 8), 1);
@@ -79,7 +79,7 @@ public final class LookingTest {
     }
 
     private static void pieceParts() {
-        LaidPieces p = Checks.with(Checks.at(1, 1, 5, 5, 0), Checks.at(2, 0, 1, 12, 0),
+        Played p = Checks.with(Checks.at(1, 1, 5, 5, 0), Checks.at(2, 0, 1, 12, 0),
                 Checks.at(0, 3, 12, 1, 0));
         // Piece 0 is left in four parts: 2, 6, 2 and 6 cells.
         Checks.due("15: parts", p.piece(0, 9), 4);
@@ -90,40 +90,40 @@ public final class LookingTest {
         p.addPiece(0, 0, 12, 12, 0);
         Checks.due("15: nothing is seen", p.piece(0, 9), 0);
         Checks.due("15: nothing is seen", p.piece(0, 10), 0);
-        LaidPieces corners = Checks.with(Checks.at(2, 2, 2, 2, 0), Checks.at(2, 2, 1, 1, 0),
+        Played corners = Checks.with(Checks.at(2, 2, 2, 2, 0), Checks.at(2, 2, 1, 1, 0),
                 Checks.at(3, 3, 1, 1, 0));
         Checks.due("15: corners do not connect", corners.piece(0, 9), 2);
         Checks.due("15: corners do not connect", corners.piece(0, 10), 1);
-        LaidPieces ring = Checks.with(Checks.at(0, 0, 12, 12, 0), Checks.at(1, 1, 10, 10, 0),
+        Played ring = Checks.with(Checks.at(0, 0, 12, 12, 0), Checks.at(1, 1, 10, 10, 0),
                 Checks.at(3, 0, 1, 2, 0));
         Checks.due("15: a ring that is cut once", ring.piece(0, 9), 1);
         Checks.due("15: its cells", ring.piece(0, 10), 43);
-        LaidPieces above = Checks.with(Checks.at(0, 0, 9, 1, 0), Checks.at(4, 0, 1, 1, 0));
+        Played above = Checks.with(Checks.at(0, 0, 9, 1, 0), Checks.at(4, 0, 1, 1, 0));
         Checks.due("15: parts in the uppermost row", above.piece(0, 9), 2);
         above.setPage(4, 4);
         Checks.due("15: one of them outside", above.piece(0, 9), 1);
         // Left, below and right of a hole with a gap above: two arms hang on a row below.
-        LaidPieces arms = Checks.with(Checks.at(2, 2, 5, 5, 0), Checks.at(3, 2, 3, 4, 0));
+        Played arms = Checks.with(Checks.at(2, 2, 5, 5, 0), Checks.at(3, 2, 3, 4, 0));
         Checks.due("15: two arms", arms.piece(0, 9), 1);
         Checks.due("15: their cells", arms.piece(0, 10), 13);
         // The same, hanging on a column to the right.
-        LaidPieces teeth = Checks.with(Checks.at(2, 2, 5, 5, 0), Checks.at(2, 3, 4, 3, 0));
+        Played teeth = Checks.with(Checks.at(2, 2, 5, 5, 0), Checks.at(2, 3, 4, 3, 0));
         Checks.due("15: two teeth", teeth.piece(0, 9), 1);
         Checks.due("15: their cells", teeth.piece(0, 10), 13);
-        LaidPieces gap = Checks.with(Checks.at(2, 2, 5, 3, 0), Checks.at(4, 2, 1, 3, 0),
+        Played gap = Checks.with(Checks.at(2, 2, 5, 3, 0), Checks.at(4, 2, 1, 3, 0),
                 Checks.at(2, 3, 5, 1, 0));
         Checks.due("15: one cell apart is not connected", gap.piece(0, 9), 4);
         Checks.due("15: the largest", gap.piece(0, 10), 2);
-        LaidPieces hook = Checks.with(Checks.at(2, 2, 2, 3, 0), Checks.at(2, 2, 1, 2, 0));
+        Played hook = Checks.with(Checks.at(2, 2, 2, 3, 0), Checks.at(2, 2, 1, 2, 0));
         Checks.due("15: a hook to the left", hook.piece(0, 9), 1);
         Checks.due("15: its cells", hook.piece(0, 10), 4);
-        LaidPieces spiral = Checks.with(Checks.at(0, 0, 12, 12, 0), Checks.at(0, 1, 11, 1, 0),
+        Played spiral = Checks.with(Checks.at(0, 0, 12, 12, 0), Checks.at(0, 1, 11, 1, 0),
                 Checks.at(10, 2, 1, 9, 0), Checks.at(1, 10, 9, 1, 0), Checks.at(1, 3, 1, 7, 0),
                 Checks.at(2, 3, 7, 1, 0), Checks.at(8, 4, 1, 5, 0), Checks.at(3, 8, 5, 1, 0),
                 Checks.at(3, 5, 1, 3, 0), Checks.at(4, 5, 3, 1, 0), Checks.at(6, 6, 1, 1, 0));
         Checks.due("15: a spiral is one part", spiral.piece(0, 9), 1);
         Checks.due("15: its cells", spiral.piece(0, 10), 144 - 60);
-        LaidPieces comb = Checks.with(Checks.at(0, 0, 11, 4, 0));
+        Played comb = Checks.with(Checks.at(0, 0, 11, 4, 0));
         for (int x = 1; x < 11; x += 2) {
             comb.addPiece(x, 0, 1, 3, 0);
         }
@@ -138,7 +138,7 @@ public final class LookingTest {
         int[][] cuts = {{2, 3, 1}, {3, 2, 2}, {6, 3, 4}, {3, 6, 8}, {2, 2, 3}, {6, 2, 6},
             {6, 6, 12}, {2, 6, 9}, {4, 4, 0}};
         for (int[] cut : cuts) {
-            LaidPieces p = Checks.with(Checks.at(2, 2, 5, 5, 0),
+            Played p = Checks.with(Checks.at(2, 2, 5, 5, 0),
                     Checks.at(cut[0], cut[1], 1, 1, 0));
             Checks.due("15: no frame, no strip", p.piece(0, 11), 0);
             p.setFrame(0, 1);
@@ -147,7 +147,7 @@ public final class LookingTest {
             boolean inner = cut[0] == 4 && cut[1] == 4;
             Checks.hold("15: a wide frame", !inner || p.piece(0, 11) == 15);
         }
-        LaidPieces p = Checks.with(Checks.at(-1, 0, 5, 5, 0), Checks.at(12, 9, 4, 4, 0),
+        Played p = Checks.with(Checks.at(-1, 0, 5, 5, 0), Checks.at(12, 9, 4, 4, 0),
                 Checks.at(6, -2, 4, 6, 0), Checks.at(13, 3, 4, 4, 0), Checks.at(20, 20, 3, 3, 0),
                 Checks.at(1, 6, 1, 5, 0), Checks.at(1, 10, 1, 1, 0));
         int[] due = {1 + 2 + 8, 1 + 4 + 8, 1 + 2 + 4, 2 + 4 + 8, 15, 1 + 4 + 8, 0};
@@ -169,19 +169,19 @@ public final class LookingTest {
             {15, 0, 8}, {16, 0, 12}, {14, 11, 10}, {0, 10, 6}, {-20, 40, 12}, {40, -20, 12},
             {13, 8, 0}};
         for (int[] place : places) {
-            LaidPieces p = Checks.with(Checks.at(place[0], place[1], 3, 4, 0));
+            Played p = Checks.with(Checks.at(place[0], place[1], 3, 4, 0));
             Checks.due("15: outside at " + place[0] + ", " + place[1], p.piece(0, 12), place[2]);
             Checks.due("15: seen at " + place[0] + ", " + place[1], p.piece(0, 7),
                     12 - place[2]);
         }
-        LaidPieces p = Checks.with(Checks.at(3, 3, 3, 4, 0), Checks.at(3, 3, 3, 4, 0));
+        Played p = Checks.with(Checks.at(3, 3, 3, 4, 0), Checks.at(3, 3, 3, 4, 0));
         Checks.due("15: hidden cells are not outside", p.piece(0, 12), 0);
         p.setPage(4, 24);
         Checks.due("15: outside of a smaller page", p.piece(0, 12), 8);
     }
 
     private static void seen() {
-        LaidPieces p = Checks.with(Checks.at(-1, -1, 3, 3, 0), Checks.at(1, 1, 20, 2, 0));
+        Played p = Checks.with(Checks.at(-1, -1, 3, 3, 0), Checks.at(1, 1, 20, 2, 0));
         p.addPiece(1, 1, 12, 2, 0);
         Checks.leaves(p, "16: the first cell", () -> p.seen(0, 0), 0);
         Checks.due("16: the upper one", p.seen(1, 1), 1);
@@ -207,7 +207,7 @@ public final class LookingTest {
     }
 
     private static void inLayer() {
-        LaidPieces p = Checks.with(Checks.at(0, 0, 1, 1, 0), Checks.at(0, 0, 1, 1, 0),
+        Played p = Checks.with(Checks.at(0, 0, 1, 1, 0), Checks.at(0, 0, 1, 1, 0),
                 Checks.at(0, 0, 1, 1, 0));
         p.setLayer(2, 0);
         Checks.leaves(p, "17: inLayer(0)", () -> p.inLayer(0), 2);
@@ -220,7 +220,7 @@ public final class LookingTest {
     }
 
     private static void covering() {
-        LaidPieces p = Checks.with(Checks.at(0, 0, 4, 4, 0), Checks.at(2, 2, 4, 4, 0),
+        Played p = Checks.with(Checks.at(0, 0, 4, 4, 0), Checks.at(2, 2, 4, 4, 0),
                 Checks.at(3, 0, 1, 12, 0), Checks.at(8, 8, 1, 1, 0));
         p.setLayer(0, 2);
         // From the lowest layer on: 1, 2, 0, 3.
@@ -240,7 +240,7 @@ public final class LookingTest {
     }
 
     private static void edge() {
-        LaidPieces p = Checks.with(Checks.at(0, 0, 3, 3, 0), Checks.at(3, 0, 2, 2, 0),
+        Played p = Checks.with(Checks.at(0, 0, 3, 3, 0), Checks.at(3, 0, 2, 2, 0),
                 Checks.at(1, 1, 1, 1, 0), Checks.at(14, 9, 5, 5, 0));
         Checks.leaves(p, "19: two side by side", () -> p.edge(0, 1), 2);
         Checks.due("19: from the other side", p.edge(1, 0), 2);
@@ -259,29 +259,29 @@ public final class LookingTest {
             Checks.refused(p, "19: edge(" + w[0] + ", " + w[1] + ")", () -> p.edge(w[0], w[1]),
                     Checks.INVALID);
         }
-        LaidPieces thin = Checks.with(Checks.at(0, 2, 1, 3, 0), Checks.at(15, 2, 1, 3, 0),
+        Played thin = Checks.with(Checks.at(0, 2, 1, 3, 0), Checks.at(15, 2, 1, 3, 0),
                 Checks.at(2, 0, 3, 1, 0), Checks.at(2, 11, 3, 1, 0), Checks.at(1, 2, 1, 3, 0),
                 Checks.at(14, 2, 1, 3, 0), Checks.at(2, 1, 3, 1, 0), Checks.at(2, 10, 3, 1, 0));
         for (int i = 0; i < 8; i++) {
             Checks.due("19: the border of piece " + i, thin.edge(i, -2), i < 4 ? 3 : 0);
         }
-        LaidPieces all = Checks.with(Checks.at(-1, -1, 12, 12, 0));
+        Played all = Checks.with(Checks.at(-1, -1, 12, 12, 0));
         all.setPage(4, 6);
         Checks.due("19: the whole border", all.edge(0, -2), 20);
         Checks.due("19: no page", all.edge(0, -1), 0);
-        LaidPieces wide = Checks.with(Checks.at(12, 12, 12, 12, 0));
+        Played wide = Checks.with(Checks.at(12, 12, 12, 12, 0));
         wide.setPage(24, 24);
         Checks.due("19: the border of the largest page", wide.edge(0, -2), 24);
         Checks.due("19: its page", wide.edge(0, -1), 24);
     }
 
     private static void hides() {
-        LaidPieces p = Checks.with(Checks.at(-1, 0, 4, 4, 0), Checks.at(0, 2, 4, 4, 0),
+        Played p = Checks.with(Checks.at(-1, 0, 4, 4, 0), Checks.at(0, 2, 4, 4, 0),
                 Checks.at(-2, 3, 4, 1, 0));
         Checks.leaves(p, "20: the cells that another one hides too do not count",
                 () -> p.hides(1, 0), 4);
         Checks.due("20: cells outside do not count", p.hides(2, 0), 2);
-        LaidPieces q = Checks.with(Checks.at(0, 0, 4, 1, 0), Checks.at(1, 0, 2, 2, 0));
+        Played q = Checks.with(Checks.at(0, 0, 4, 1, 0), Checks.at(1, 0, 2, 2, 0));
         Checks.due("20: in the uppermost row, as the first look", q.hides(1, 0), 2);
         q.shift(1, 2, 0);
         Checks.due("20: behind a shift, as the first look", q.hides(1, 0), 1);
@@ -296,11 +296,11 @@ public final class LookingTest {
     }
 
     private static void byShare() {
-        LaidPieces none = new LaidPieces();
+        Played none = new Played();
         Checks.due("21: no pieces", none.byShare(0), Checks.NONE);
         Checks.due("21: no pieces", none.byShare(-1), Checks.INVALID);
         // Seen: 0 a half, 1 all, 2 all, 3 none of it (outside), 4 two thirds.
-        LaidPieces p = Checks.with(Checks.at(0, 0, 4, 4, 0), Checks.at(0, 2, 4, 4, 0),
+        Played p = Checks.with(Checks.at(0, 0, 4, 4, 0), Checks.at(0, 2, 4, 4, 0),
                 Checks.at(8, 8, 1, 1, 0), Checks.at(-9, 0, 1, 1, 0), Checks.at(14, 0, 3, 1, 0));
         int[] due = {3, 0, 4, 1, 2, Checks.NONE, Checks.NONE};
         for (int index = 0; index < due.length; index++) {
@@ -315,7 +315,7 @@ public final class LookingTest {
         Checks.refused(p, "21: the least index", () -> p.byShare(Integer.MIN_VALUE),
                 Checks.INVALID);
         // 99 of 100 and all of 5, then 1 of 100 and none of 5.
-        LaidPieces r = Checks.with(Checks.at(0, 0, 5, 1, 0), Checks.at(2, 1, 10, 10, 0));
+        Played r = Checks.with(Checks.at(0, 0, 5, 1, 0), Checks.at(2, 1, 10, 10, 0));
         r.addPiece(5, 5, 1, 1, 0);
         Checks.due("21: nearly all, as the first look", r.byShare(0), 1);
         r.setLayer(1, 0);
@@ -329,13 +329,13 @@ public final class LookingTest {
         r.setLayer(1, 0);
         Checks.due("21: one of 100 comes behind none", r.byShare(1), 1);
         Checks.due("21: the one cell", r.piece(1, 7), 1);
-        LaidPieces t = Checks.with(Checks.at(-1, 0, 3, 1, 0), Checks.at(9, 1, 10, 10, 0),
+        Played t = Checks.with(Checks.at(-1, 0, 3, 1, 0), Checks.at(9, 1, 10, 10, 0),
                 Checks.at(10, 2, 2, 2, 0));
         Checks.due("21: 2 of 3 and 66 of 100", t.byShare(0), 0);
         t.setLayer(0, 1);
         Checks.due("21: 66 of 100 and 2 of 3", t.byShare(0), 1);
         // 66 2/3 and 66 1/9 of a hundred are both 66: the lower layer is first.
-        LaidPieces q = Checks.with(Checks.at(14, 0, 3, 1, 0), Checks.at(13, 11, 9, 1, 0));
+        Played q = Checks.with(Checks.at(14, 0, 3, 1, 0), Checks.at(13, 11, 9, 1, 0));
         q.setPage(19, 12);
         q.shift(0, 3, 0);
         Checks.due("21: rounded down", q.byShare(0), 0);

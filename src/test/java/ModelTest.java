@@ -5,8 +5,9 @@ import java.util.function.IntSupplier;
  * must answer the same.
  */
 public final class ModelTest {
-    private static final int CALLS = 512;
-    private static final String[] SNIPPETS = {"piece ", "piece", "page ", "page", "frame ", " frame",
+    private static final int CALLS = Played.CALLS;
+    private static final String[] SNIPPETS = {"piece ", "piece", "page ", "page", "frame ",
+            " frame",
         ";", "; ", " ", "  ", "-", "0", "1", "5", "12", "13", "24", "25", "40", "41", "100", "101",
         "-20", "-21", "-0", "00", "01", "3", "4", "x", "P", "\t", ",", "pieces", "frames 1"};
 
@@ -67,7 +68,11 @@ public final class ModelTest {
         return about(0, Math.max(0, model.count(0) - 1));
     }
 
+    /** Makes a call on both, as long as an object answers. */
     private void same(String call, IntSupplier got, IntSupplier want) {
+        if (calls == CALLS) {
+            return;
+        }
         calls++;
         Checks.due(run + calls + ": " + call, got.getAsInt(), want.getAsInt());
     }

@@ -16,7 +16,7 @@ public final class PageAndPiecesTest {
     }
 
     private static void newObject() {
-        LaidPieces p = new LaidPieces();
+        Played p = new Played();
         int[] counts = {0, 16, 12, 0, 0, 0, 192, 0, 0, 0};
         for (int what = 0; what < counts.length; what++) {
             Checks.due("1: count(" + what + ")", p.count(what), counts[what]);
@@ -29,13 +29,13 @@ public final class PageAndPiecesTest {
         Checks.due("1: constants", LaidPieces.ILLEGAL_STATE, -102);
         Checks.due("1: constants", LaidPieces.CAPACITY_EXCEEDED, -103);
         Checks.due("1: constants", LaidPieces.NONE, -109);
-        LaidPieces other = new LaidPieces();
+        Played other = new Played();
         other.addPiece(0, 0, 1, 1, 0);
         Checks.due("1: objects have states of their own", p.count(0), 0);
     }
 
     private static void setPage() {
-        LaidPieces p = Checks.with(Checks.at(0, 0, 5, 5, 100), Checks.at(20, 20, 4, 4, 100),
+        Played p = Checks.with(Checks.at(0, 0, 5, 5, 100), Checks.at(20, 20, 4, 4, 100),
                 Checks.at(4, 4, 1, 1, 0));
         Checks.due("2: setPage(24, 24)", p.setPage(24, 24), 2);
         Checks.due("2: setPage(4, 4)", p.setPage(4, 4), 1);
@@ -60,7 +60,7 @@ public final class PageAndPiecesTest {
     }
 
     private static void addPiece() {
-        LaidPieces p = new LaidPieces();
+        Played p = new Played();
         Checks.due("3: the lowest values", p.addPiece(-20, -20, 1, 1, 0), 0);
         Checks.due("3: the highest values", p.addPiece(40, 40, 12, 12, 100), 1);
         Checks.due("3: an ordinary one", p.addPiece(2, 3, 4, 5, 60), 2);
@@ -89,7 +89,7 @@ public final class PageAndPiecesTest {
         Checks.due("3: room again", p.addPiece(0, 0, 1, 1, 0), 11);
     }
 
-    private static void refuseAll(LaidPieces p, int[][] refused) {
+    private static void refuseAll(Played p, int[][] refused) {
         for (int[] r : refused) {
             Checks.refused(p, "3: addPiece" + java.util.Arrays.toString(r),
                     () -> p.addPiece(r[0], r[1], r[2], r[3], r[4]), Checks.INVALID);
@@ -97,7 +97,7 @@ public final class PageAndPiecesTest {
     }
 
     private static void removePiece() {
-        LaidPieces p = new LaidPieces();
+        Played p = new Played();
         for (int i = 0; i < 4; i++) {
             p.addPiece(i, 2 * i, 3 + i, 4 + i, 10 * i);
             p.setFrame(i, i);
@@ -130,7 +130,7 @@ public final class PageAndPiecesTest {
     }
 
     private static void setShare() {
-        LaidPieces p = Checks.with(Checks.at(0, 0, 2, 5, 30), Checks.at(0, 0, 1, 5, 70));
+        Played p = Checks.with(Checks.at(0, 0, 2, 5, 30), Checks.at(0, 0, 1, 5, 70));
         Checks.due("5: setShare(0, 50)", p.setShare(0, 50), 30);
         Checks.due("5: just content", p.piece(0, 8), 1);
         Checks.due("5: setShare(0, 51)", p.setShare(0, 51), 50);
@@ -151,7 +151,7 @@ public final class PageAndPiecesTest {
     }
 
     private static void setFrame() {
-        LaidPieces p = Checks.with(Checks.at(0, 0, 2, 5, 30), Checks.at(5, 5, 1, 5, 70));
+        Played p = Checks.with(Checks.at(0, 0, 2, 5, 30), Checks.at(5, 5, 1, 5, 70));
         Checks.due("6: setFrame(1, 3)", p.setFrame(1, 3), 0);
         Checks.due("6: setFrame(1, 1)", p.setFrame(1, 1), 3);
         Checks.due("6: the frame", p.piece(1, 5), 1);
@@ -171,7 +171,7 @@ public final class PageAndPiecesTest {
     }
 
     private static void shift() {
-        LaidPieces p = Checks.with(Checks.at(0, 0, 2, 5, 30), Checks.at(-20, 40, 1, 5, 70));
+        Played p = Checks.with(Checks.at(0, 0, 2, 5, 30), Checks.at(-20, 40, 1, 5, 70));
         Checks.due("7: shift(0, 3, -4)", p.shift(0, 3, -4), 7);
         Checks.due("7: X", p.piece(0, 0), 3);
         Checks.due("7: Y", p.piece(0, 1), -4);
@@ -204,7 +204,7 @@ public final class PageAndPiecesTest {
     }
 
     private static void setLayer() {
-        LaidPieces p = Checks.with(Checks.at(0, 0, 2, 2, 0), Checks.at(0, 0, 2, 2, 0),
+        Played p = Checks.with(Checks.at(0, 0, 2, 2, 0), Checks.at(0, 0, 2, 2, 0),
                 Checks.at(0, 0, 2, 2, 0), Checks.at(0, 0, 2, 2, 0));
         Checks.due("8: setLayer(0, 2)", p.setLayer(0, 2), 0);
         order(p, 1, 2, 0, 3);
@@ -229,7 +229,7 @@ public final class PageAndPiecesTest {
         }
     }
 
-    private static void order(LaidPieces p, int... pieces) {
+    private static void order(Played p, int... pieces) {
         for (int layer = 0; layer < pieces.length; layer++) {
             Checks.due("8: inLayer(" + layer + ")", p.inLayer(layer), pieces[layer]);
             Checks.due("8: piece(" + pieces[layer] + ", 6)", p.piece(pieces[layer], 6), layer);
@@ -237,11 +237,11 @@ public final class PageAndPiecesTest {
     }
 
     private static void arrange() {
-        LaidPieces empty = new LaidPieces();
+        Played empty = new Played();
         Checks.refused(empty, "9: no pieces", empty::arrange, Checks.STATE);
-        LaidPieces content = Checks.with(Checks.at(0, 0, 2, 2, 100));
+        Played content = Checks.with(Checks.at(0, 0, 2, 2, 100));
         Checks.refused(content, "9: all are content", content::arrange, Checks.STATE);
-        LaidPieces p = Checks.with(Checks.at(4, 4, 3, 3, 100), Checks.at(5, 4, 3, 3, 100));
+        Played p = Checks.with(Checks.at(4, 4, 3, 3, 100), Checks.at(5, 4, 3, 3, 100));
         Checks.due("9: one shift", p.arrange(), 1);
         Checks.due("9: X", p.piece(0, 0), 2);
         Checks.due("9: Y", p.piece(0, 1), 4);
@@ -255,11 +255,11 @@ public final class PageAndPiecesTest {
 
     private static void arrangeChoosesAmongPieces() {
         // Piece 1 lies outside by one column, piece 0 by two rows: 1 is the cheaper one.
-        LaidPieces p = Checks.with(Checks.at(3, -2, 2, 2, 100), Checks.at(-1, 5, 2, 2, 100));
+        Played p = Checks.with(Checks.at(3, -2, 2, 2, 100), Checks.at(-1, 5, 2, 2, 100));
         Checks.due("9: two shifts", p.arrange(), 2);
         Checks.due("9: the cost", p.count(7), 3);
         // The same in the other order, and with a step less between their costs.
-        LaidPieces o = Checks.with(Checks.at(-1, 5, 2, 2, 100), Checks.at(3, -2, 2, 2, 100),
+        Played o = Checks.with(Checks.at(-1, 5, 2, 2, 100), Checks.at(3, -2, 2, 2, 100),
                 Checks.at(8, -2, 2, 2, 50), Checks.at(12, -3, 1, 1, 1));
         o.setShare(2, 0);
         Checks.due("9: three shifts", o.arrange(), 3);
@@ -273,7 +273,7 @@ public final class PageAndPiecesTest {
         o.removePiece(3);
         Checks.due("9: without it", o.arrange(), Checks.STATE);
         // 0 could move by 2, but 1 can by 1, and with that 0 is content, too.
-        LaidPieces s = Checks.with(Checks.at(6, 5, 1, 1, 100), Checks.at(4, 4, 3, 2, 100),
+        Played s = Checks.with(Checks.at(6, 5, 1, 1, 100), Checks.at(4, 4, 3, 2, 100),
                 Checks.at(6, 4, 2, 1, 100), Checks.at(6, 6, 1, 1, 0), Checks.at(7, 5, 1, 1, 0));
         Checks.due("9: the cost for 0", s.leastShift(0, 1, 0), 2);
         Checks.due("9: the cost for 1", s.leastShift(1, 1, 0), 1);
@@ -283,14 +283,14 @@ public final class PageAndPiecesTest {
         Checks.due("9: X of 1", s.piece(1, 0), 3);
         // Both are hidden by 2. 0 moves first; 1 then hides it at the same cost, with as many
         // pieces content as before, and 0 moves on.
-        LaidPieces q = Checks.with(Checks.at(5, 5, 2, 2, 50), Checks.at(5, 5, 2, 2, 50),
+        Played q = Checks.with(Checks.at(5, 5, 2, 2, 50), Checks.at(5, 5, 2, 2, 50),
                 Checks.at(5, 5, 2, 2, 100));
         Checks.due("9: the smaller number first", q.arrange(), 3);
         Checks.due("9: X of 0", q.piece(0, 0), 3);
         Checks.due("9: X of 1", q.piece(1, 0), 4);
         Checks.due("9: Y of 1", q.piece(1, 1), 5);
         // A shift that takes another piece its share is none for aim 1.
-        LaidPieces r = Checks.with(Checks.at(0, 0, 2, 4, 100), Checks.at(-2, 0, 2, 4, 50));
+        Played r = Checks.with(Checks.at(0, 0, 2, 4, 100), Checks.at(-2, 0, 2, 4, 50));
         r.setPage(4, 4);
         Checks.due("9: over the other one, not farther", r.arrange(), 2);
         Checks.due("9: all are content", r.count(3), 2);
@@ -299,11 +299,11 @@ public final class PageAndPiecesTest {
     }
 
     private static void arrangeEnds() {
-        LaidPieces far = Checks.with(Checks.at(-20, 0, 2, 2, 50));
+        Played far = Checks.with(Checks.at(-20, 0, 2, 2, 50));
         Checks.due("9: nothing to be done is an action too", far.arrange(), 0);
         Checks.due("9: the history", far.count(8), 2);
         // Every piece but the highest one is hidden at first; 12 shifts at the most are made.
-        LaidPieces p = new LaidPieces();
+        Played p = new Played();
         p.setPage(24, 24);
         for (int i = 0; i < 12; i++) {
             p.addPiece(10, 10, 4, 4, 30);

@@ -14,7 +14,7 @@ public final class TextTest {
     }
 
     private static void append() {
-        LaidPieces p = new LaidPieces();
+        Played p = new Played();
         for (int wrong : new int[] {0, -1, 256, Integer.MIN_VALUE, Integer.MAX_VALUE}) {
             Checks.refused(p, "10: append(" + wrong + ")", () -> p.append(wrong),
                     Checks.INVALID);
@@ -31,7 +31,7 @@ public final class TextTest {
     }
 
     private static void clearText() {
-        LaidPieces p = new LaidPieces();
+        Played p = new Played();
         Checks.due("11: an empty text", p.clearText(), 0);
         Checks.type(p, "page 4 4; piece");
         Checks.due("11: clearText", p.clearText(), 15);
@@ -44,7 +44,7 @@ public final class TextTest {
     }
 
     private static void emptyTexts() {
-        LaidPieces p = new LaidPieces();
+        Played p = new Played();
         Checks.due("12: an empty text", p.load(), 0);
         Checks.due("12: it is an action", p.count(8), 1);
         Checks.due("12: spaces alone", Checks.loaded(p, "    "), 0);
@@ -53,7 +53,7 @@ public final class TextTest {
     }
 
     private static void goodTexts() {
-        LaidPieces p = Checks.with(Checks.at(1, 1, 1, 1, 1));
+        Played p = Checks.with(Checks.at(1, 1, 1, 1, 1));
         Checks.due("12: items", Checks.loaded(p,
                 "page 24 4;piece -20 40 12 1 0;piece 40 -20 1 12 100 frame 3;"), 3);
         Checks.due("12: one action", p.count(8), 2);
@@ -68,7 +68,7 @@ public final class TextTest {
                         due[piece][what]);
             }
         }
-        Checks.due("12: all digits", Checks.loaded(new LaidPieces(),
+        Checks.due("12: all digits", Checks.loaded(new Played(),
                 "piece 9 19 9 8 99 frame 2;piece 39 -19 8 7 98;piece 16 25 4 3 90;"), 3);
         Checks.due("12: frame 0", Checks.loaded(p, "piece 1 2 3 4 5 frame 0;"), 1);
         Checks.due("12: its frame", p.piece(3, 5), 0);
@@ -83,7 +83,7 @@ public final class TextTest {
     }
 
     private static void spaces() {
-        LaidPieces p = new LaidPieces();
+        Played p = new Played();
         Checks.due("12: as few as can be",
                 Checks.loaded(p, "page4 4;piece-1-2 3 4 5frame1;piece1-2 3 4 5;"), 3);
         Checks.due("12: Y", p.piece(1, 1), -2);
@@ -101,7 +101,8 @@ public final class TextTest {
             {"p", "0"}, {"page", "4"}, {"page ", "5"}, {"page  4", "7"}, {"page 4 4", "8"},
             {"page 4 4 ", "9"}, {"pages 4 4;", "0"}, {" pag 4 4;", "1"}, {"Page 4 4;", "0"},
             {"cage 4 4;", "0"}, {"niece 1 2 3 4 5;", "0"}, {"piecf 1", "0"},
-            {"piece 1 2 3 4 5 grame 1;", "16"}, {"piece 1 2 3 4 5 framf 1;", "16"}, {"page;", "4"}, {"page 4;", "6"}, {"page 4 4 4;", "9"}, {"page 4 4 frame 1;", "9"},
+            {"piece 1 2 3 4 5 grame 1;", "16"}, {"piece 1 2 3 4 5 framf 1;", "16"}, {"page;", "4"},
+            {"page 4;", "6"}, {"page 4 4 4;", "9"}, {"page 4 4 frame 1;", "9"},
             {"page 4 page;", "7"}, {"page 4 4;page 4 4;", "9"},
             {"piece 1 2 3 4 5;page 4 4;", "16"}, {";", "0"}, {" ;", "1"}, {"page 4 4;;", "9"},
             {"piece", "5"}, {"piece 1 2 3 4 5", "15"}, {"piece 1 2 3 4;", "13"},
@@ -115,8 +116,7 @@ public final class TextTest {
             {"piece 1 2 3 4 5; pieces", "17"}, {"piece 1 2 3 4 5:", "15"},
             {"piece 1 2 3 4 5 Frame 1;", "16"}, {"piec", "0"}, {"\u0001", "0"}, {"`", "0"},
             {"{", "0"}, {"piece /", "6"}, {"piece :", "6"}, {"piece +1", "6"}};
-        LaidPieces p = refusing(texts);
-        Checks.due("12: none of them was an action", p.count(8), 1);
+        refusing(texts);
     }
 
     private static void errorsOfNumbers() {
@@ -136,28 +136,25 @@ public final class TextTest {
             {"piece 4294967297 2 3 4 5;", "6"}, {"piece 18446744073709551617 2 3 4 5;", "6"},
             {"piece -99999999999999999999 2 3 4 5;", "6"}, {"piece 1 1 10000 1 1;", "10"},
             {"piece 1 1 1 1 1000", "14"}, {"piece 1 1 1 1 1 frame 65536;", "22"}};
-        LaidPieces p = refusing(texts);
-        Checks.due("12: none of them was an action", p.count(8), 1);
+        refusing(texts);
     }
 
     /** Each text has an error at the position told with it, and changes nothing. */
-    private static LaidPieces refusing(String[][] texts) {
-        LaidPieces p = Checks.with(Checks.at(3, 3, 2, 2, 50));
+    private static void refusing(String[][] texts) {
         for (String[] text : texts) {
+            Played p = Checks.with(Checks.at(3, 3, 2, 2, 50));
             Checks.type(p, text[0]);
             Checks.refused(p, "12: load of \"" + text[0] + "\"", p::load,
                     -1000 - Integer.parseInt(text[1]));
-            p.clearText();
         }
         // Good items ahead of the error change nothing either.
+        Played p = Checks.with(Checks.at(3, 3, 2, 2, 50));
         Checks.type(p, "page 5 5;piece 1 1 1 1 1 frame 2;piece 1 1 1 1 1 frame 2 x");
         Checks.refused(p, "12: load of good items and a bad one", p::load, -1057);
-        p.clearText();
-        return p;
     }
 
     private static void fullPage() {
-        LaidPieces p = new LaidPieces();
+        Played p = new Played();
         for (int i = 0; i < 11; i++) {
             p.addPiece(i, 0, 1, 1, 0);
         }
@@ -177,19 +174,21 @@ public final class TextTest {
     }
 
     private static void longTexts() {
-        LaidPieces p = new LaidPieces();
         String seven = "piece 0 0 1 1 0;".repeat(7);
-        Checks.due("12: 112 characters", Checks.loaded(p, seven + "        "), 7);
+        Checks.due("12: 112 characters", Checks.loaded(new Played(), seven + "        "), 7);
         Checks.due("12: 120 characters, cut",
-                Checks.loaded(p, "piece 0 0 1 1 0 frame 1; ".repeat(5).substring(0, 120)), -1116);
+                Checks.loaded(new Played(), "piece 0 0 1 1 0 frame 1; ".repeat(5).substring(0,
+                        120)), -1116);
         Checks.due("12: 120 characters, one too few",
-                Checks.loaded(p, "piece 0 0 1 1 0 frame 1;".repeat(5).substring(0, 119)), -1119);
+                Checks.loaded(new Played(), "piece 0 0 1 1 0 frame 1;".repeat(5).substring(0, 119)),
+                        -1119);
         Checks.due("12: 120 characters that end with an item",
-                Checks.loaded(new LaidPieces(), "piece 0 0 1 1 0 frame 1;".repeat(5)), 5);
-        Checks.due("12: many digits", Checks.loaded(p, "piece " + "1".repeat(114)), -1006);
-        Checks.due("12: many letters", Checks.loaded(p, "p".repeat(120)), -1000);
-        Checks.due("12: many spaces", Checks.loaded(p, " ".repeat(119) + "p"), -1119);
-        Checks.due("12: many spaces", Checks.loaded(p, "page" + " ".repeat(116)), -1120);
-        Checks.due("12: nothing but spaces", Checks.loaded(p, " ".repeat(120)), 0);
+                Checks.loaded(new Played(), "piece 0 0 1 1 0 frame 1;".repeat(5)), 5);
+        Checks.due("12: many digits", Checks.loaded(new Played(), "piece " + "1".repeat(114)),
+                -1006);
+        Checks.due("12: many letters", Checks.loaded(new Played(), "p".repeat(120)), -1000);
+        Checks.due("12: many spaces", Checks.loaded(new Played(), " ".repeat(119) + "p"), -1119);
+        Checks.due("12: many spaces", Checks.loaded(new Played(), "page" + " ".repeat(116)), -1120);
+        Checks.due("12: nothing but spaces", Checks.loaded(new Played(), " ".repeat(120)), 0);
     }
 }

@@ -13,8 +13,8 @@ public final class UndoTest {
         Checks.end(UndoTest.class);
     }
 
-    private static LaidPieces sample() {
-        LaidPieces p = Checks.with(Checks.at(4, 4, 3, 3, 100), Checks.at(5, 4, 3, 3, 80),
+    private static Played sample() {
+        Played p = Checks.with(Checks.at(4, 4, 3, 3, 100), Checks.at(5, 4, 3, 3, 80),
                 Checks.at(-1, 0, 2, 6, 70));
         p.setFrame(1, 2);
         p.shift(2, 0, 1);
@@ -22,13 +22,13 @@ public final class UndoTest {
     }
 
     private static void emptyHistory() {
-        LaidPieces p = new LaidPieces();
+        Played p = new Played();
         Checks.type(p, "page 5 5;");
         Checks.refused(p, "13: an empty history", p::undo, Checks.STATE);
     }
 
     private static void everyAction() {
-        List<Consumer<LaidPieces>> actions = new ArrayList<>();
+        List<Consumer<Played>> actions = new ArrayList<>();
         actions.add(p -> p.setPage(5, 6));
         actions.add(p -> p.addPiece(1, 2, 3, 4, 5));
         actions.add(p -> p.removePiece(0));
@@ -42,7 +42,7 @@ public final class UndoTest {
         actions.add(p -> Checks.loaded(p, "page 7 7; piece 1 2 3 4 5 frame 2;"));
         actions.add(p -> p.load());
         for (int i = 0; i < actions.size(); i++) {
-            LaidPieces p = sample();
+            Played p = sample();
             p.undo();
             List<Integer> before = Checks.state(p);
             int states = p.count(8);
@@ -59,7 +59,7 @@ public final class UndoTest {
     }
 
     private static void noActions() {
-        LaidPieces p = sample();
+        Played p = sample();
         p.undo();
         int states = p.count(8);
         p.append('x');
@@ -76,7 +76,7 @@ public final class UndoTest {
     }
 
     private static void fiveStates() {
-        LaidPieces p = new LaidPieces();
+        Played p = new Played();
         for (int i = 0; i < 9; i++) {
             Checks.due("13: the history", p.count(8), Math.min(i, 5));
             p.addPiece(i, i, 1, 1, i);
@@ -91,7 +91,7 @@ public final class UndoTest {
     }
 
     private static void undoThenAct() {
-        LaidPieces p = new LaidPieces();
+        Played p = new Played();
         for (int i = 0; i < 7; i++) {
             p.setPage(4 + i, 4);
         }
