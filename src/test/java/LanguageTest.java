@@ -28,6 +28,8 @@ public final class LanguageTest {
         classesInside();
         String path = args.length > 0 ? args[0] : "src/main/java/LaidPieces.java";
         String source = new String(Files.readAllBytes(Path.of(path)));
+        faceAsWritten(source, Files.readAllLines(Path.of("..", "shared", "DOC.md")));
+        groups(source, Files.readAllLines(Path.of("..", "shared", "DOC.md")));
         words(code(source));
         indexes(code(source));
         methodLengths(source);
@@ -55,6 +57,48 @@ public final class LanguageTest {
         Checks.due("rule 1: public constructors", LaidPieces.class.getConstructors().length, 1);
         Checks.hold("rule 1: public and final", Modifier.isFinal(LaidPieces.class.getModifiers())
                 && Modifier.isPublic(LaidPieces.class.getModifiers()));
+    }
+
+    /** The face in the source is that of the document, word by word and in its order. */
+    private static void faceAsWritten(String source, List<String> document) {
+        boolean inside = false;
+        int last = -1;
+        int lines = 0;
+        for (String line : document) {
+            inside = line.startsWith("## ") ? line.equals("## The public face") : inside;
+            if (inside && line.startsWith("public ")) {
+                Checks.hold("rule 1: " + line, source.contains("\n" + line + "\n"));
+            }
+            if (inside && line.startsWith("    public ")) {
+                lines++;
+                String written = line.endsWith(");") ? line.replace(");", ") {") : line;
+                int place = source.indexOf("\n" + written + "\n");
+                Checks.hold("rule 1: \"" + line.trim() + "\" in its place", place > last);
+                last = place;
+            }
+        }
+        Checks.due("rule 1: lines of the face", lines, 28);
+    }
+
+    /** Ahead of the calls the source says what the document says that the interface says. */
+    private static void groups(String source, List<String> document) {
+        Pattern sentence = Pattern.compile("^Ahead of the calls (.*) the interface says: (.*)\\.$");
+        int calls = 0;
+        for (String line : document) {
+            Matcher m = sentence.matcher(line);
+            if (m.find()) {
+                int begin = source.indexOf("\n    // " + m.group(2) + "\n");
+                Checks.hold("the source says " + m.group(2), begin >= 0);
+                int end = source.indexOf("\n    // ---- ", begin + 1);
+                end = end < 0 ? source.length() : end;
+                for (String call : m.group(1).split(", ")) {
+                    calls++;
+                    int place = source.indexOf("\n    public int " + call.replace("`", "") + "(");
+                    Checks.hold(call + " behind " + m.group(2), begin < place && place < end);
+                }
+            }
+        }
+        Checks.due("calls in groups", calls, 23);
     }
 
     private static void classesInside() {
