@@ -33,6 +33,7 @@ public final class LanguageTest {
         words(code(source));
         indexes(code(source));
         methodLengths(source);
+        onlyConstructorsMake(code(source));
         Checks.end(LanguageTest.class);
     }
 
@@ -167,6 +168,25 @@ public final class LanguageTest {
             Checks.hold("rule 7: " + lines[i].trim(), !Pattern.compile("\\w\\[[^\\]]*[^\\w\\]]")
                     .matcher(lines[i].replaceAll("new int\\[[^;]*", "")).find());
         }
+    }
+
+    /** All calls of a run live in one room, so no call makes an object or an array. */
+    private static void onlyConstructorsMake(String code) {
+        Pattern constructor = Pattern.compile("( {4}public | {8})[A-Z]\\w*\\(.*\\) \\{");
+        boolean inside = false;
+        int made = 0;
+        for (String line : code.split("\n")) {
+            if (constructor.matcher(line).matches()) {
+                inside = true;
+            } else if (line.matches("( {4}| {8})\\}")) {
+                inside = false;
+            }
+            if (line.contains("new ")) {
+                made++;
+                Checks.hold("made in a constructor: " + line.trim(), inside);
+            }
+        }
+        Checks.hold("something is made", made > 0);
     }
 
     private static void methodLengths(String source) {
